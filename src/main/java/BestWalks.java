@@ -182,9 +182,7 @@ public final class BestWalks {
         before.copyFrom(state);
         int done = acts.perform();
         text.clear();
-        if (done > 0) {
-            remember();
-        }
+        settled(done > 0 ? done : NONE);
         told.only(acts.stopped() ? 1 : 0);
         return done;
     }
@@ -549,14 +547,10 @@ public final class BestWalks {
     /** What a change of the state answers; below 0 it was refused, and the state is as before. */
     private int settled(int answer) {
         if (answer >= 0) {
-            remember();
+            history.add(before);
+            changed();
         }
         return answer;
-    }
-
-    private void remember() {
-        history.add(before);
-        changed();
     }
 
     private void changed() {
@@ -1356,8 +1350,8 @@ public final class BestWalks {
             switch (letter) {
                 case 's': return value + next;
                 case 'p': return value * next;
-                case 'm': return Math.max(value, next);
-                case 'l': return Math.min(value, next);
+                case 'm': return value >= next ? value : next;
+                case 'l': return value <= next ? value : next;
                 default: return value;
             }
         }
@@ -1368,14 +1362,15 @@ public final class BestWalks {
      * So rows compare as these numbers do, and one that ends first is ahead.
      */
     private static final class Codes {
+        private static final int FIRST_SHIFT = 4 * (ROW_MOST - 1);
 
         static long with(long code, int place, int v) {
-            return code | (long) (v + 1) << shiftOf(place);
+            return code | (long) (v + 1) << FIRST_SHIFT - 4 * place;
         }
 
         /** The number at a place 0 .. 7 of a row; NONE, if it has none there. */
         static int numberAt(long code, int place) {
-            return (int) (code >>> shiftOf(place) & 15) - 1;
+            return (int) (code >>> FIRST_SHIFT - 4 * place & 15) - 1;
         }
 
         static int lengthOf(long code) {
@@ -1433,10 +1428,6 @@ public final class BestWalks {
                 code = with(code, p, text.at(p) - 'a');
             }
             return code;
-        }
-
-        private static int shiftOf(int place) {
-            return 4 * (ROW_MOST - 1 - place);
         }
     }
 
