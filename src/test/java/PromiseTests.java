@@ -433,6 +433,11 @@ public final class PromiseTests {
         is("takes", w.takes(0, 0), 1);
         is("takes", w.takes(0, 0), -1);
         is("count(6)", w.count(6), 4);
+        BestWalks zero = withLists("0,0,7");
+        is("takes a 0", zero.takes(0, 1), 0);
+        is("what is left", zero.number(0, 1), 7);
+        is("takes a 0", zero.takes(0, 0), 0);
+        is("takes", zero.takes(0, 0), 7);
     }
 
     private static void joining() {
@@ -602,6 +607,60 @@ public final class PromiseTests {
         is("none", w.undo(), -1);
         tenAreKept();
         otherThingsStay();
+        eachIsUndone();
+    }
+
+    /** All that undo() brings back, as one text. */
+    private static String seen(BestWalks w) {
+        StringBuilder b = new StringBuilder();
+        for (int x = 0; x < 4; x++) {
+            for (int i = 0; !numberThrows(w, x, i); i++) {
+                b.append(w.number(x, i)).append(',');
+            }
+            b.append(';');
+        }
+        for (int i = 0; i < w.count(1); i++) {
+            b.append(w.edge(i, 0)).append(w.edge(i, 1)).append(':').append(w.edge(i, 2)).append(' ');
+        }
+        b.append(w.count(2)).append(w.count(3)).append(' ').append(w.count(4));
+        for (int p = 0; p < 25; p++) {
+            int was = w.costs(p / 5, p % 5, 0);
+            w.undo();
+            b.append(' ').append(was);
+        }
+        return b.toString();
+    }
+
+    private static void undoes(String what, int which) {
+        BestWalks w = withDay("p005p106p107jab03jbg04c1109c4308k2ege");
+        w.puts(3, 1);
+        w.costs(2, 2, 2);
+        String before = seen(w);
+        int kept = w.count(6);
+        switch (which) {
+            case 0: w.puts(1, 9); break;
+            case 1: w.takes(1, 1); break;
+            case 2: w.joins(0, 1, 9); break;
+            case 3: w.joins(1, 6, 0); break;
+            case 4: w.joins(3, 2, 1); break;
+            case 5: w.costs(4, 3, 1); break;
+            case 6: w.sets(0, 3); break;
+            case 7: w.sets(1, 3); break;
+            case 8: w.ends(4, 6); break;
+            case 9: list(w, 1, "1,2,3"); break;
+            default: day(w, "p010t10jac05c0011z4k1ebat19"); break;
+        }
+        is(what + " can be undone", w.undo(), kept);
+        String behind = seen(w);
+        is(what + " is undone: " + before + " / " + behind, before.equals(behind), true);
+    }
+
+    private static void eachIsUndone() {
+        String[] names = {"puts()", "takes()", "joins()", "joins() of 0", "joins() of a new one", "costs()", "SIZE", "PICKED",
+            "ends()", "lists()", "day()"};
+        for (int i = 0; i < names.length; i++) {
+            undoes(names[i], i);
+        }
     }
 
     private static void tenAreKept() {
@@ -747,6 +806,8 @@ public final class PromiseTests {
         BestWalks w = withLists("5,7,12");
         is("below(3, 12)", w.below(3, 12), 5);
         rowIs("below(3, 12)", w, 12);
+        is("below(3, 4)", w.below(3, 4), 1);
+        rowIs("below(3, 4)", w, 0);
         is("below(3, 11)", w.below(3, 11), 3);
         rowIs("below(3, 11)", w, 7);
         is("below(3, big)", w.below(3, Integer.MAX_VALUE), 8);
@@ -1083,6 +1144,10 @@ public final class PromiseTests {
         is("an eleventh", w.heard(0, 0), -1);
         is("count(5)", w.count(5), 10);
         BestWalks v = new BestWalks();
+        for (int what = 0; what < 5; what++) {
+            is("v, while there is room", v.heard(what, greatest[what] + 1), -1);
+            is("v, while there is room", v.heard(what, -1), -1);
+        }
         is("what", v.heard(5, 0), -1);
         is("what", v.heard(-1, 0), -1);
         is("twice", v.heard(1, 1) + v.heard(1, 1), 3);
@@ -1126,6 +1191,9 @@ public final class PromiseTests {
         w.heard(0, 1);
         is("fits(3)", w.fits(3), 3);
         rowIs("fits(3)", w, 4);
+        w.heard(0, 2);
+        is("fits(3)", w.fits(3), 1);
+        rowIs("fits(3)", w, 8);
         w.heard(3, 1);
         is("fits(3)", w.fits(3), 0);
         rowIs("fits(3)", w);
@@ -1262,28 +1330,10 @@ public final class PromiseTests {
 
     private static void yearsGoBy() {
         promise = 36;
+        for (int seed = -300; seed < 300; seed++) {
+            yearsOf(seed * 7654321, 1 + (seed & 31) + (seed & 8));
+        }
         BestWalks w = new BestWalks();
-        BestWalks by = new BestWalks();
-        int answer = w.years(12345, 40);
-        int[] r = {12345};
-        for (int i = 0; i < 40; i++) {
-            oneYear(by, r);
-        }
-        is("CHOICES", answer, by.many(0));
-        is("TREES", w.row(0), by.many(1));
-        is("ROUTES", w.row(1), by.many(4));
-        by.many(2);
-        is("least of PAIRINGS", w.row(2), by.row(0));
-        is("numbers of the ROW", w.count(7), 3);
-        for (int what = 0; what < 10; what++) {
-            if (what != 7) {
-                is("count(" + what + ")", w.count(what), by.count(what));
-            }
-        }
-        while (by.undo() >= 0) {
-            w.undo();
-            is("each act is undone by itself", w.count(0) * 100 + w.count(1), by.count(0) * 100 + by.count(1));
-        }
         is("n", w.years(1, 0), -1);
         is("n", w.years(1, 41), -1);
         is("n", w.years(1, -1), -1);
@@ -1292,6 +1342,27 @@ public final class PromiseTests {
         is("years(0, 1)", one.years(0, 1), 1);
         rowIs("years(0, 1)", one, 1, 0, 0);
         is("a number came", one.count(0), 1);
+    }
+
+    private static void yearsOf(int seed, int n) {
+        BestWalks w = withDay("z3p050jab01");
+        BestWalks by = withDay("z3p050jab01");
+        int answer = w.years(seed, n);
+        int[] r = {seed};
+        for (int i = 0; i < n; i++) {
+            oneYear(by, r);
+        }
+        is("CHOICES", answer, by.many(0));
+        is("TREES", w.row(0), by.many(1));
+        is("ROUTES", w.row(1), by.many(4));
+        by.many(2);
+        is("least of PAIRINGS", w.row(2), by.row(0));
+        is("numbers of the ROW", w.count(7), 3);
+        is("each act is kept", w.count(6), by.count(6));
+        is("all is as due", seen(w).equals(seen(by)), true);
+        w.undo();
+        by.undo();
+        is("each act is undone by itself", seen(w).equals(seen(by)), true);
     }
 
     private static int draw(int[] r, int n) {
