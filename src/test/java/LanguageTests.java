@@ -64,6 +64,11 @@ public final class LanguageTests {
             must(isPublic || Modifier.isPrivate(m.getModifiers()), "1: neither public nor private: " + m.getName());
             must(isPublic || !names.contains(m.getName()), "1: a private " + m.getName());
         }
+        for (Class<?> c : BestWalks.class.getDeclaredClasses()) {
+            for (Method m : c.getDeclaredMethods()) {
+                must(!names.contains(m.getName()), "1: " + c.getName() + " has a " + m.getName());
+            }
+        }
         for (Field f : BestWalks.class.getDeclaredFields()) {
             must(Modifier.isPrivate(f.getModifiers()) || f.getName().equals("NONE"), "1: a field " + f.getName());
         }
