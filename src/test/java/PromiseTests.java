@@ -1237,6 +1237,23 @@ public final class PromiseTests {
         rule(twice, "-1");
         // rows aa, ab, ba, bb; costs below 0: first 0 halves
         is("costs below 0", twice.asks(0), 100);
+        BestWalks lengths = withDay("jab02jac01jcb01");
+        is("by how many numbers", lengths.asks(4), 302);
+        rowIs("by how many numbers", lengths, 1);
+        BestWalks middles = withDay("jac01jcb01jad01jdb01");
+        is("by what is in the row", middles.asks(4), 402);
+        rowIs("by what is in the row", middles, 1);
+        middles.joins(0, 4, 1);
+        middles.joins(4, 1, 1);
+        middles.heard(4, 4);
+        is("one is left", middles.asks(4), 0);
+        BestWalks zero = withLists("5,7");
+        rule(zero, "-(s=7)");
+        is("costs 0 and -1", zero.asks(0), 0);
+        rowIs("costs 0 and -1", zero, 1);
+        rule(zero, "10*(s=5)-(s=7)");
+        is("costs 10 and -1", zero.asks(0), 0);
+        rowIs("costs 10 and -1", zero, 1);
         BestWalks ten = withLists("5,7");
         for (int i = 0; i < 10; i++) {
             ten.heard(0, 0);
