@@ -49,7 +49,7 @@ public final class BestWalks {
     private final Text text = new Text();
     private final State state = new State();
     private final State before = new State();
-    private final Acts acts = new Acts(text, state);
+    private final Acts acts = new Acts();
     private final History history = new History();
     private final State[] kept = new State[KEEPS];
     private final boolean[] isKept = new boolean[KEEPS];
@@ -180,7 +180,7 @@ public final class BestWalks {
             return -1 - fault;
         }
         before.copyFrom(state);
-        int done = acts.perform();
+        int done = acts.perform(text, state);
         text.clear();
         settled(done > 0 ? done : NONE);
         told.only(acts.stopped() ? 1 : 0);
@@ -684,6 +684,14 @@ public final class BestWalks {
             return at(p) - '0';
         }
 
+        int twoDigits(int p) {
+            return 10 * digit(p) + digit(p + 1);
+        }
+
+        int node(int p) {
+            return at(p) - 'a';
+        }
+
         /** How many numbers of a LIST were found, or -1 - p of the sign that can't stand at p. */
         int numbersInto(int[] found) {
             if (length == 0) {
@@ -1016,14 +1024,7 @@ public final class BestWalks {
 
     /** The ACTS of A DAY: a letter, then signs of which a form tells, place by place, the greatest. */
     private static final class Acts {
-        private final Text text;
-        private final State state;
         private boolean stopped;
-
-        Acts(Text text, State state) {
-            this.text = text;
-            this.state = state;
-        }
 
         boolean stopped() {
             return stopped;
@@ -1050,12 +1051,12 @@ public final class BestWalks {
         }
 
         /** Does the acts of a sound text one by one, till one can't be: how many were done. */
-        int perform() {
+        int perform(Text text, State state) {
             stopped = false;
             int done = 0;
             int p = 0;
             while (p < text.length() && !stopped) {
-                if (performOne(p) < 0) {
+                if (performOne(text, p, state) < 0) {
                     stopped = true;
                 } else {
                     done++;
@@ -1065,29 +1066,17 @@ public final class BestWalks {
             return done;
         }
 
-        private int performOne(int p) {
+        private static int performOne(Text text, int p, State state) {
             switch (text.at(p)) {
-                case 'p': return state.putNumber(digit(p + 1), twoDigits(p + 2));
-                case 't': return state.takeNumber(digit(p + 1), digit(p + 2));
-                case 'j': return state.joinNodes(node(p + 1), node(p + 2), twoDigits(p + 3));
-                case 'c': return state.setCost(digit(p + 1), digit(p + 2), twoDigits(p + 3));
-                case 'z': return state.setWhat(0, digit(p + 1));
-                case 'k': return state.setWhat(1, digit(p + 1));
-                case 'e': return state.setEnds(node(p + 1), node(p + 2));
+                case 'p': return state.putNumber(text.digit(p + 1), text.twoDigits(p + 2));
+                case 't': return state.takeNumber(text.digit(p + 1), text.digit(p + 2));
+                case 'j': return state.joinNodes(text.node(p + 1), text.node(p + 2), text.twoDigits(p + 3));
+                case 'c': return state.setCost(text.digit(p + 1), text.digit(p + 2), text.twoDigits(p + 3));
+                case 'z': return state.setWhat(0, text.digit(p + 1));
+                case 'k': return state.setWhat(1, text.digit(p + 1));
+                case 'e': return state.setEnds(text.node(p + 1), text.node(p + 2));
                 default: return NONE;
             }
-        }
-
-        private int digit(int p) {
-            return text.digit(p);
-        }
-
-        private int twoDigits(int p) {
-            return 10 * text.digit(p) + text.digit(p + 1);
-        }
-
-        private int node(int p) {
-            return text.at(p) - 'a';
         }
 
         private static String formOf(char letter) {

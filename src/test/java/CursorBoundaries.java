@@ -507,6 +507,9 @@ public final class CursorBoundaries extends Sentences {
             is("asks(4) of 2 and 3 numbers", lengths.asks(4), 302);
             BestWalks within = withDay("jac01jcb01jad01jdb01");
             is("asks(4) of one between", within.asks(4), 402);
+            BestWalks zero = withDay("jba01jac01jbd01jdc01ebc");
+            is("asks(4) of a 0 between", zero.asks(4), 400);
+            rowIs("asks(4) of a 0 between", zero, 1);
             BestWalks high = withDay("jaf01jfb01jag01jgb01");
             is("asks(4) of one between", high.asks(4), 405);
         });

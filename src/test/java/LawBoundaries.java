@@ -43,6 +43,12 @@ public final class LawBoundaries extends Sentences {
             BestWalks none = new BestWalks();
             is("law() of no LISTS", law(none, "p+n"), 1);
             rowIs("law() of no LISTS", none, 1, 0);
+            BestWalks ones = withLists("5", "", "7", "1,9");
+            is("LISTS of one and of none", law(ones, "-p-n"), 2);
+            rowIs("LISTS of one and of none", ones, -318, 21);
+            BestWalks one = withLists("", "", "", "8");
+            is("one LIST of one", law(one, "s*10+n"), 1);
+            rowIs("one LIST of one", one, 81, 8);
             BestWalks wide = withLists("1,2,3");
             is("the least int is first", law(wide, "128*256*256*256-(s<3)"), 3);
             rowIs("the least int is first", wide, LEAST, 3);

@@ -6,6 +6,7 @@ public final class TextBoundaries extends Sentences {
         lists();
         listFaults();
         rules();
+        rulesBehindFaults();
         ruleFaults();
         rulesOverForty();
         numbers();
@@ -220,6 +221,26 @@ public final class TextBoundaries extends Sentences {
                 is("count(8)", w.count(8), 0);
                 w.best(0, 1);
                 rowIs("best(0, 1) behind " + fault, w, 7, 0, 0);
+            }
+        });
+    }
+
+    private static final String[] UNDONE = {"s-", "-", "--(", "1-(2-", "((((", "s<", "(s<m", "s*(", "((((1<2", "1<2<3", "s-(m"};
+
+    private static void rulesBehindFaults() {
+        sentence(5, "(a refused one leaves nothing to the next)", () -> {
+            for (String fault : UNDONE) {
+                BestWalks w = withLists("5,6", "7");
+                is("rule " + fault, rule(w, fault) < 0, true);
+                is("rule m+1<9 behind " + fault, rule(w, "m+1<9"), 0);
+                w.best(0, 1);
+                rowIs("best(0, 1) behind " + fault, w, 1, 0, 0);
+                is("law " + fault, law(w, fault) <= -10000, true);
+                is("law -((((f)))) behind " + fault, law(w, "-((((f))))"), 2);
+                rowIs("law -((((f)))) behind " + fault, w, -6, 1);
+                is("rule " + fault, rule(w, fault) < 0, true);
+                w.best(0, 2);
+                rowIs("best(0, 2) behind " + fault, w, 1, 1, 0);
             }
         });
     }
