@@ -80,6 +80,30 @@ public final class TextBoundaries extends Sentences {
             tell(w, "5");
             is("end(0)", w.end(0), true);
             is("lists(0) of none", w.lists(0), 0);
+            BestWalks cut = new BestWalks();
+            for (int n = 1; n <= 8; n++) {
+                // what was cut off is not read, though it could go on
+                tell(cut, "12345678").end(n);
+                is("lists(1) of " + n + " digits", cut.lists(1), n < 3 ? 1 : -3);
+                tell(cut, "12,34,56").end(n);
+                is("lists(1) of " + n + " signs", cut.lists(1), new int[] {1, 1, -4, 2, 2, -7, 3, 3}[n - 1]);
+            }
+            tell(cut, "12,34,56").end(4);
+            cut.lists(1);
+            numbersAre(cut, 1, 3, 12);
+            tell(cut, "12,34,56").end(1);
+            cut.lists(1);
+            numbersAre(cut, 1, 1);
+            tell(cut, "p055p166").end(4);
+            is("day() of its first ACT", cut.day(), 1);
+            tell(cut, "p055p166").end(3);
+            is("day() that ends too early", cut.day(), -4);
+            tell(cut, "2*34").end(3);
+            is("rule() of 2*3", cut.rule(), 0);
+            cut.best(0, 1);
+            is("the COST by 2*3", cut.row(0), 6);
+            tell(cut, "aabb").end(2);
+            is("rank(0) of aa", cut.rank(0), 1);
             BestWalks full = ofSigns(80);
             is("end(80)", full.end(80), true);
             is("end(79)", full.end(79), true);
